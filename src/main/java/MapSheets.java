@@ -54,7 +54,7 @@ public final class MapSheets {
         if (!isWithin(columns, 1, MOST_COLUMNS) || !isWithin(rows, 1, MOST_ROWS)) {
             return INVALID_ARGUMENT;
         }
-        history.record(now);
+        history.recordState(now);
         now.begin(columns, rows);
         history.keepRecord();
         return now.edgeCount();
@@ -64,7 +64,7 @@ public final class MapSheets {
         if (!isWithin(what, 0, 1) || !isWithin(value, 0, what == 0 ? 1 : MOST_TOLERANCE)) {
             return INVALID_ARGUMENT;
         }
-        history.record(now);
+        history.recordState(now);
         int previous = what == 0 ? now.putGuard(value) : now.putTolerance(value);
         history.keepRecord();
         return previous;
@@ -74,7 +74,7 @@ public final class MapSheets {
         if (!now.hasPlace(sheet, side, position) || !isDigit(sign)) {
             return INVALID_ARGUMENT;
         }
-        history.record(now);
+        history.recordState(now);
         int previous = now.putSign(sheet, side, position, sign);
         return endRevision(sheet, previous);
     }
@@ -86,7 +86,7 @@ public final class MapSheets {
         if (now.signAt(sheet, side, position) == NO_SIGN) {
             return NOT_POSSIBLE;
         }
-        history.record(now);
+        history.recordState(now);
         int previous = now.putSign(sheet, side, position, NO_SIGN);
         return endRevision(sheet, previous);
     }
@@ -95,7 +95,7 @@ public final class MapSheets {
         if (!now.hasSheet(sheet) || !isDigit(sign) || !isDigit(meaning)) {
             return INVALID_ARGUMENT;
         }
-        history.record(now);
+        history.recordState(now);
         int previous = now.putMeaning(sheet, sign, meaning);
         return endRevision(sheet, previous);
     }
@@ -251,7 +251,7 @@ public final class MapSheets {
         if (now.quarrelsOf(edge) > 0) {
             return NOT_POSSIBLE;
         }
-        history.record(now);
+        history.recordState(now);
         int previous = now.putAgreed(edge, 1);
         history.keepRecord();
         return previous;
@@ -264,7 +264,7 @@ public final class MapSheets {
         if (!now.isAgreed(edge)) {
             return NOT_POSSIBLE;
         }
-        history.record(now);
+        history.recordState(now);
         now.putAgreed(edge, 0);
         history.keepRecord();
         return blocks.find(now);
@@ -277,7 +277,7 @@ public final class MapSheets {
         if (sheet != now.firstSheet(edge) && sheet != now.secondSheet(edge)) {
             return INVALID_ARGUMENT;
         }
-        history.record(now);
+        history.recordState(now);
         int changed = now.settleFrom(edge, sheet);
         if (changed == NOT_POSSIBLE) {
             history.returnToRecord(now);
@@ -301,7 +301,7 @@ public final class MapSheets {
         if (now.agreedEdgesOf(sheet) < now.edgesOf(sheet)) {
             return NOT_POSSIBLE;
         }
-        history.record(now);
+        history.recordState(now);
         now.publishRevision(sheet);
         history.keepRecord();
         return now.revisionOf(sheet);
@@ -311,7 +311,7 @@ public final class MapSheets {
         if (!now.hasSheet(sheet) || !isWithin(thousandths, 1, MOST_THOUSANDTHS)) {
             return INVALID_ARGUMENT;
         }
-        history.record(now);
+        history.recordState(now);
         int previous = now.putScale(sheet, thousandths);
         history.keepRecord();
         return previous;
@@ -354,7 +354,7 @@ public final class MapSheets {
         if (text.firstFault() != NOT_FOUND) {
             return NOT_POSSIBLE;
         }
-        history.record(now);
+        history.recordState(now);
         int taken = text.takeInto(now, sheet);
         if (taken == 0) {
             // An empty text is a change, but no revision.
@@ -868,7 +868,7 @@ public final class MapSheets {
             return size;
         }
 
-        void record(Atlas now) {
+        void recordState(Atlas now) {
             Atlas free = stateAt(size);
             if (free != null) {
                 free.copyFrom(now);

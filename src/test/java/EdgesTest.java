@@ -254,6 +254,12 @@ public final class EdgesTest {
         x.show(5, 3, 0, 2);
         same("settle a row", x.settle(3, 5), 1);
         same("shown", x.sign(4, 1, 0), 2);
+        same("a revision for one position", x.sheet(4, 4), 1);
+        x.mean(4, 9, 2);
+        x.mean(4, 0, 2);
+        x.show(4, 1, 0, 3);
+        same("settle to the lowest of three signs", x.settle(3, 5), 1);
+        same("shown", x.sign(4, 1, 0), 0);
     }
 
     private static void promise17SettleWithoutASign() {

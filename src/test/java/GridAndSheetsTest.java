@@ -19,10 +19,13 @@ public final class GridAndSheetsTest {
         promise8Meaning();
         promise9Sheet();
         promise9Blocks();
+        promise9BlocksOfTheLargestGrid();
         promise10Count();
         promise11Undo();
         promise11UndoRestoresEverythingButTheText();
         promise11EveryChangeIsRecorded();
+        promise11EveryChangeIsTakenBack();
+        promise11ErrorsLeaveAFullHistory();
         promise11WhatIsNoChange();
         DUE.finish();
     }
@@ -333,6 +336,37 @@ public final class GridAndSheetsTest {
         same("release in a ring", x.release(x.edgeAt(1, 2)), 4);
         same("release a bridge", x.release(x.edgeAt(5, 3)), 5);
         same("8 and 5 again", x.sheet(8, 9), 5);
+        // 1 comes to 0 by 4 and 3 alone: the second sheet of its edge is the one with the lower block.
+        x.grid(3, 3);
+        x.agree(x.edgeAt(4, 0));
+        x.agree(x.edgeAt(3, 1));
+        x.agree(x.edgeAt(0, 2));
+        for (int sheet = 0; sheet < 9; sheet++) {
+            boolean joined = sheet == 0 || sheet == 1 || sheet == 3 || sheet == 4;
+            same("block of " + sheet, x.sheet(sheet, 9), joined ? 0 : sheet);
+        }
+        same("blocks at last", x.count(7), 6);
+    }
+
+    private static void promise9BlocksOfTheLargestGrid() {
+        MapSheets x = new MapSheets();
+        x.grid(6, 6);
+        for (int edge = 0; edge < 60; edge++) {
+            same("agree", x.agree(edge), 0);
+            same("agreed", x.edge(edge, 3), 1);
+        }
+        same("one block", x.count(7), 1);
+        same("all agreed", x.count(4), 60);
+        for (int sheet = 0; sheet < 36; sheet++) {
+            same("lowest", x.sheet(sheet, 9), 0);
+        }
+        for (int sheet = 0; sheet < 36; sheet += 5) {
+            same("publish", x.publish(sheet), 0);
+        }
+        x.show(35, 1, 0, 0);
+        x.show(5, 1, 0, 0);
+        same("published", x.count(8), 8);
+        same("up to date", x.count(9), 6);
     }
 
     private static void promise10Count() {
@@ -458,6 +492,75 @@ public final class GridAndSheetsTest {
         same("release", x.release(0), 3);
         same("release is recorded", x.undo(), 2);
         same("release is undone", x.edge(0, 3), 1);
+    }
+
+    private static void promise11EveryChangeIsTakenBack() {
+        MapSheets x = new MapSheets();
+        x.set(0, 0);
+        x.undo();
+        same("set is undone", x.count(13), 1);
+        x.set(1, 5);
+        x.set(1, 6);
+        x.undo();
+        same("set is undone", x.count(14), 5);
+        x.undo();
+        same("set is undone", x.count(14), 20);
+        x.scale(5, 5);
+        x.scale(5, 6);
+        x.undo();
+        same("scale is undone", x.sheet(5, 7), 5);
+        x.undo();
+        same("scale is undone", x.sheet(5, 7), 1000);
+        x.mean(5, 5, 6);
+        x.undo();
+        same("mean is undone", x.meaning(5, 5), 5);
+        same("its revision too", x.sheet(5, 4), 0);
+        x.agree(6);
+        x.undo();
+        same("agree is undone", x.edge(6, 3), 0);
+        x.agree(6);
+        x.agree(3);
+        x.release(6);
+        x.undo();
+        same("release is undone", x.edge(6, 3), 1);
+        x.publish(5);
+        x.undo();
+        same("publish is undone", x.sheet(5, 5), MapSheets.NOT_FOUND);
+        x.publish(5);
+        x.show(5, 2, 0, 0);
+        x.publish(5);
+        x.undo();
+        same("the second publish is undone", x.sheet(5, 5), 0);
+        x.grid(1, 1);
+        x.undo();
+        same("grid is undone", x.count(4), 2);
+        same("its signs come back", x.sign(5, 2, 0), 0);
+    }
+
+    /** What is not possible leaves even the oldest state of a full history as it is. */
+    private static void promise11ErrorsLeaveAFullHistory() {
+        MapSheets x = new MapSheets();
+        x.agree(0);
+        x.mean(4, 8, 0);
+        x.show(3, 1, 0, 8);
+        for (int sign = 0; sign < 5; sign++) {
+            x.show(3, 3, 0, sign);
+        }
+        String text = "e0=1;";
+        for (int i = 0; i < text.length(); i++) {
+            x.type(text.charAt(i));
+        }
+        same("full", x.count(11), 4);
+        same("forbidden show", x.show(0, 1, 0, 0), MapSheets.NOT_POSSIBLE);
+        same("forbidden read", x.read(0), MapSheets.NOT_POSSIBLE);
+        same("nothing to erase", x.erase(0, 0, 0), MapSheets.NOT_POSSIBLE);
+        same("a sign lacks", x.settle(2, 3), MapSheets.NOT_POSSIBLE);
+        same("full still", x.count(11), 4);
+        for (int left = 3; left >= 0; left--) {
+            same("undo", x.undo(), left);
+            same("sign", x.sign(3, 3, 0), left);
+            same("still agreed", x.edge(0, 3), 1);
+        }
     }
 
     private static void promise11WhatIsNoChange() {
