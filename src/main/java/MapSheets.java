@@ -529,11 +529,12 @@ public final class MapSheets {
 
         int firstSheet(int edge) {
             int edgesInRow = columns - 1;
-            if (edgesInRow > 0 && edge < rowEdgeCount()) {
+            int rowEdges = edgesInRow * rows;
+            if (edgesInRow > 0 && edge < rowEdges) {
                 // A row has one sheet more than edges, so each full row before shifts by one.
                 return edge + edge / edgesInRow;
             }
-            return edge - rowEdgeCount();
+            return edge - rowEdges;
         }
 
         int secondSheet(int edge) {
